@@ -132,6 +132,8 @@ public final class PromisesTest {
         fault("a;", 0);
         fault("g;", 0);
         fault("hc;", 0);
+        fault("ha;", 0);
+        fault("hz;", 0);
         fault("H;", 0);
         fault("  q;", 2);
         fault("h", 1);
@@ -186,6 +188,16 @@ public final class PromisesTest {
         fault("p1;p1;", 3);
         fault("p1", 2);
         fault("p1;" + (char) 255, 3);
+        fault("p1;h`;", 4);
+        fault("p1;h{;", 4);
+        fault("p1;h/;", 4);
+        fault("p1;h:;", 4);
+        PotLoans x = new PotLoans();
+        Due.type(x, "hh99 99;");
+        x.clear();
+        is("4 bytes of an earlier text don't count", Due.village(x, "h"), -11);
+        is("4 the rest of it may still come", Due.village(x, "7;"), 1);
+        is("4 nor behind a number", Due.village(x, "h 7;p9"), -16);
     }
 
     private static void villageLimits() {
@@ -213,6 +225,7 @@ public final class PromisesTest {
         x.makes(0);
         x.makes(3);
         x.tells(0, 1);
+        x.keep(0);
         x.keep(1);
         x.mark(0, 0);
         is("4 village()", Due.village(x, "m1 2;"), 1);
@@ -222,6 +235,7 @@ public final class PromisesTest {
         is("4 no refusals", x.now(4), 0);
         is("4 nothing told", x.count(3), 0);
         is("4 nothing to be undone", x.undo(), PotLoans.STATE);
+        is("4 images are gone", x.back(0), PotLoans.STATE);
         is("4 images are gone", x.back(1), PotLoans.STATE);
         is("4 no clauses", x.count(0), 0);
         is("4 no clashes", x.count(1), 0);
@@ -229,6 +243,19 @@ public final class PromisesTest {
         is("4 grants none any more", x.claim(0, 3), 0);
         is("4 the trace stays", x.trace(), 1);
         is("4 nothing follows any more", x.would(1), 1);
+        for (int time = 0; time < 2; time++) {
+            x.village();
+            for (int what = 0; what < 6; what++) {
+                is("4 nothing is left of any", x.count(what), 0);
+            }
+            is("4 nothing is left of any", x.now(0), 0);
+            is("4 nothing is left of any", x.now(2), 50);
+        }
+        PotLoans y = Due.told("c1 0;c2 3;");
+        y.would(1);
+        y.village();
+        Due.village(y, "c7 0;c6;");
+        is("4 what follows is new", y.would(1), 193);
     }
 
     private static void claim() {
@@ -469,6 +496,9 @@ public final class PromisesTest {
         PotLoans y = Due.told("c0;c1 0;x1 0;");
         is("14 caught whatever he holds", y.together(0), PotLoans.NONE);
         is("14 caught whatever he holds", y.together(1), PotLoans.NONE);
+        PotLoans none = Due.told("c1 0;c0 1;c0 2;c0 3;c0 4;c0 5;c0 6;c0 7;x0 1;");
+        is("14 none at all is not caught", none.together(0), 0);
+        is("14 none at all is not caught", none.together(1), 0);
         PotLoans z = Due.told("c1 0;c2 1;c3 2;x3 4;x3 5;");
         is("14 with all that follows", z.together(0), 6);
         is("14 without what leads there", z.together(1), 207);
@@ -497,6 +527,13 @@ public final class PromisesTest {
         is("15 accepted", x.row(1, -1), PotLoans.BAD);
         is("15 fewer now", x.row(3, -1), 3);
         is("15 the accepted one is not needed", x.row(3, 0), 0);
+        PotLoans six = Due.told("m1 0 4 g5;m1 2 3 g4;m1 2 2 g3;m1 2 1 g2;m1 2 0 g1;m1 2 g0;");
+        is("15 gladly", six.row(0, -1), 1);
+        six = Due.told("m2 2 4 g5;m1 2 3 g4;m1 2 2 g3;m1 2 1 g2;m1 2 0 g1;m1 2 g0;");
+        is("15 all six", six.row(0, -1), 6);
+        for (int i = 0; i < 6; i++) {
+            is("15 all six", six.row(0, i), 5 - i);
+        }
         PotLoans y = Due.told("m0 5 1;m9 0 2 g1;m0 9 g1;p13;");
         is("15 coins, too", y.row(0, -1), 2);
         is("15 the first has to leave enough", y.row(0, 0), 1);
@@ -687,9 +724,13 @@ public final class PromisesTest {
         is("24 back(1), none", x.back(1), PotLoans.STATE);
         x.makes(1);
         x.recants(2);
+        x.makes(3);
+        is("11 undo()", x.undo(), 4);
         x.tells(0, 0);
         x.type(104);
         is("23 keep(1)", x.keep(1), 44);
+        x.makes(3);
+        is("7 refusals", x.now(4), 2);
         is("24 back(0)", x.back(0), 64);
         is("24 held", x.now(0), 5);
         is("24 accepted", x.now(3), 1);
@@ -714,6 +755,17 @@ public final class PromisesTest {
         is("24 the later one", x.now(0), 133);
         is("24 undo(), the same as kept", x.undo(), 2);
         is("24 held", x.now(0), 5);
+        PotLoans y = new PotLoans();
+        y.holds(1);
+        y.holds(2);
+        y.keep(0);
+        y.undo();
+        y.undo();
+        y.holds(5);
+        y.holds(6);
+        y.back(0);
+        y.undo();
+        is("24 what may be undone is the image's own", y.now(0), 2);
     }
 
     private static void counts() {
