@@ -1,6 +1,8 @@
 /** Counts the answers that are not the ones due, and ends a test. */
 final class Due {
     private final String test;
+    private String sentence = "";
+    private int rightOfSentence = 1;
     private int right;
     private int wrong;
 
@@ -8,14 +10,29 @@ final class Due {
         this.test = test;
     }
 
+    /** The document's words that the rows behind this one hold the class to. */
+    void sentence(String words) {
+        checkLastSentence();
+        sentence = "\"" + words + "\": ";
+        rightOfSentence = 0;
+    }
+
+    private void checkLastSentence() {
+        if (rightOfSentence == 0) {
+            wrong++;
+            System.out.println(test + ": " + sentence + "no row holds");
+        }
+    }
+
     void is(String call, long got, long want) {
         if (got == want) {
             right++;
+            rightOfSentence++;
             return;
         }
         wrong++;
         if (wrong <= 50) {
-            System.out.println(test + ": " + call + " answered " + got + ", due is " + want);
+            System.out.println(test + ": " + sentence + call + " answered " + got + ", due is " + want);
         }
     }
 
@@ -24,6 +41,7 @@ final class Due {
     }
 
     void end() {
+        checkLastSentence();
         System.out.println(test + ": " + right + " answers as due, " + wrong + " not");
         if (wrong != 0 || right == 0) {
             System.exit(1);
@@ -38,7 +56,9 @@ final class Due {
 
     static void type(PotLoans x, String text) {
         for (int i = 0; i < text.length(); i++) {
-            x.type(text.charAt(i));
+            if (x.type(text.charAt(i)) < 1) {
+                throw new IllegalStateException("a test's text can't be typed: " + text);
+            }
         }
     }
 
