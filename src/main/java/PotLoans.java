@@ -18,12 +18,8 @@ public final class PotLoans {
     private static final int CLAIM_TRACE = 1, POT_TRACE = 10, HEN_TRACE = 100;
     private static final int COPPER_TRACE = 1000, EGG_TRACE = 10000, JEST_TRACE = 100000;
 
-    private final int[] text;
-    private int textLength;
     private final Reader reader;
     private Village village;
-    /** A text is read into this one, so that a fault leaves the other as it is. */
-    private Village draft;
     private final Lender lender;
     private final Lender[] images;
     private final boolean[] imageKept;
@@ -34,10 +30,8 @@ public final class PotLoans {
     private long traceSum;
 
     public PotLoans() {
-        text = new int[MOST_BYTES];
+        reader = new Reader();
         village = new Village();
-        draft = new Village();
-        reader = new Reader(text, draft);
         lender = new Lender();
         images = new Lender[IMAGES];
         for (int i = 0; i < IMAGES; i++) {
@@ -55,34 +49,29 @@ public final class PotLoans {
         if (c < 0 || c > 255) {
             return BAD;
         }
-        if (textLength >= MOST_BYTES) {
+        if (reader.isFull()) {
             return FULL;
         }
-        text[textLength] = c;
-        textLength++;
-        return textLength;
+        reader.append(c);
+        return reader.length;
     }
 
     public int clear() {
-        int had = textLength;
-        textLength = 0;
-        return had;
+        return reader.makeEmpty();
     }
 
     public int village() {
-        int items = reader.read(textLength, draft);
+        int items = reader.read();
         if (items < 0) {
             return items;
         }
-        Village old = village;
-        village = draft;
-        draft = old;
+        village = reader.exchange(village);
         lender.begin(village);
         toldCount = 0;
         for (int i = 0; i < IMAGES; i++) {
             imageKept[i] = false;
         }
-        textLength = 0;
+        reader.makeEmpty();
         return items;
     }
 
@@ -353,7 +342,7 @@ public final class PotLoans {
             case 2: return village.claims;
             case 3: return toldCount;
             case 4: return lender.undoable;
-            case 5: return textLength;
+            case 5: return reader.length;
             default: return BAD;
         }
     }
@@ -815,7 +804,7 @@ public final class PotLoans {
         }
     }
 
-    /** Reads a text token by token; what may stand next is told by where it is in an item. */
+    /** THE TEXT. It is read token by token; what may stand next is told by where it is in an item. */
     private static final class Reader {
         private static final int LETTERS = 0, NUMBER = 1, SEMICOLON = 2, WRONG = 3;
         private static final int AT_ITEM = 0, AT_HELD = 1, AT_MUST = 2, AT_WHO = 3, AT_CLASH_A = 4;
@@ -824,9 +813,10 @@ public final class PotLoans {
         private static final int BLANK = 32, MOST_NUMBER = 99;
 
         private final int[] text;
-        private int length;
+        int length;
         private int place;
-        private Village into;
+        /** What is read comes here, so that a fault leaves the village in use as it is. */
+        private Village draft;
         private int where;
         private int inRow;
         private boolean heldTold;
@@ -836,16 +826,39 @@ public final class PotLoans {
         /** A number's value; the letter, if letters are one alone, else 0. */
         private int tokenValue;
 
-        Reader(int[] bytes, Village first) {
-            text = bytes;
-            into = first;
+        Reader() {
+            text = new int[MOST_BYTES];
+            draft = new Village();
+        }
+
+        boolean isFull() {
+            return length >= MOST_BYTES;
+        }
+
+        void append(int b) {
+            if (isFull()) {
+                return;
+            }
+            text[length] = b;
+            length++;
+        }
+
+        int makeEmpty() {
+            int had = length;
+            length = 0;
+            return had;
+        }
+
+        /** The village that was read, for one that is in use no more. */
+        Village exchange(Village old) {
+            Village fresh = draft;
+            draft = old;
+            return fresh;
         }
 
         /** How many items; FAULT_BASE less the fault's place. */
-        int read(int howMany, Village village) {
-            length = Math.min(howMany, text.length);
-            into = village;
-            into.makeEmpty();
+        int read() {
+            draft.makeEmpty();
             place = 0;
             where = AT_ITEM;
             heldTold = false;
@@ -951,24 +964,24 @@ public final class PotLoans {
         }
 
         private boolean beginClause() {
-            if (into.clauses >= MOST_CLAUSES) {
+            if (draft.clauses >= MOST_CLAUSES) {
                 return false;
             }
-            into.addClause();
+            draft.addClause();
             where = AT_MUST;
             return true;
         }
 
         private boolean beginClash() {
             where = AT_CLASH_A;
-            return into.clashes < MOST_CLASHES;
+            return draft.clashes < MOST_CLASHES;
         }
 
         private boolean beginClaim() {
-            if (into.claims >= MOST_CLAIMS) {
+            if (draft.claims >= MOST_CLAIMS) {
                 return false;
             }
-            into.addClaim();
+            draft.addClaim();
             where = AT_GIVES;
             return true;
         }
@@ -1026,20 +1039,20 @@ public final class PotLoans {
 
         private void takeCoins() {
             if (where == AT_PURSE) {
-                into.purseAtFirst = tokenValue;
+                draft.purseAtFirst = tokenValue;
                 where = AT_END;
             } else if (where == AT_GIVES) {
-                into.gives[into.claims - 1] = tokenValue;
+                draft.gives[draft.claims - 1] = tokenValue;
                 where = AT_TAKES;
             } else {
-                into.takes[into.claims - 1] = tokenValue;
+                draft.takes[draft.claims - 1] = tokenValue;
                 where = AT_RESTS;
             }
         }
 
         private boolean takeOneBelief() {
             if (where == AT_MUST) {
-                into.mustBelieve[into.clauses - 1] = tokenValue;
+                draft.mustBelieve[draft.clauses - 1] = tokenValue;
                 where = AT_WHO;
                 return true;
             }
@@ -1048,8 +1061,8 @@ public final class PotLoans {
                 where = AT_CLASH_B;
                 return true;
             }
-            into.clashPair[into.clashes] = 1 << clashA | 1 << tokenValue;
-            into.clashes++;
+            draft.clashPair[draft.clashes] = 1 << clashA | 1 << tokenValue;
+            draft.clashes++;
             where = AT_END;
             return clashA != tokenValue;
         }
@@ -1058,13 +1071,13 @@ public final class PotLoans {
             inRow++;
             int bit = 1 << tokenValue;
             if (where == AT_HELD) {
-                into.heldAtFirst |= bit;
+                draft.heldAtFirst |= bit;
             } else if (where == AT_WHO) {
-                into.whoBelieves[into.clauses - 1] |= bit;
+                draft.whoBelieves[draft.clauses - 1] |= bit;
             } else if (where == AT_RESTS) {
-                into.rests[into.claims - 1] |= bit;
+                draft.rests[draft.claims - 1] |= bit;
             } else {
-                into.grants[into.claims - 1] |= bit;
+                draft.grants[draft.claims - 1] |= bit;
             }
             return inRow <= MOST_IN_ROW;
         }

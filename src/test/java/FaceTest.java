@@ -1,3 +1,4 @@
+import java.lang.reflect.Array;
 import java.lang.reflect.Constructor;
 import java.lang.reflect.Field;
 import java.lang.reflect.Method;
@@ -5,6 +6,8 @@ import java.lang.reflect.Modifier;
 import java.nio.file.Files;
 import java.nio.file.Path;
 import java.util.Arrays;
+import java.util.Collections;
+import java.util.IdentityHashMap;
 import java.util.List;
 import java.util.Set;
 import java.util.TreeSet;
@@ -27,6 +30,7 @@ public final class FaceTest {
         members();
         namesOfNestedMethods();
         source();
+        room();
         DUE.end();
     }
 
@@ -96,8 +100,40 @@ public final class FaceTest {
         while (method.find()) {
             seen++;
             long lines = method.group().lines().count();
-            DUE.holds("at most sixty lines: " + method.group().lines().findFirst().orElse(""), lines <= 60);
+            String head = method.group().lines().findFirst().orElse("");
+            DUE.holds("at most sixty lines: " + head, lines <= 60);
+            boolean constructor = Pattern.compile("^ *(public )?[A-Z]\\w*\\(").matcher(head).find();
+            DUE.holds("makes no object: " + head, constructor || !Pattern.compile("\\bnew\\b").matcher(method.group()).find());
         }
         DUE.holds("the methods were seen", seen > METHODS.size());
+    }
+
+    /** What one object takes of the room that all calls share; its calls make nothing more. */
+    private static void room() throws Exception {
+        Set<Object> objects = Collections.newSetFromMap(new IdentityHashMap<>());
+        int places = placesOf(new PotLoans(), objects);
+        DUE.holds(objects.size() + " objects and arrays", objects.size() <= 60);
+        DUE.holds(places + " fields and elements", places <= 2000);
+    }
+
+    private static int placesOf(Object o, Set<Object> seen) throws Exception {
+        if (o == null || !seen.add(o)) {
+            return 0;
+        }
+        int places = 0;
+        if (o.getClass().isArray()) {
+            places = Array.getLength(o);
+            for (int i = 0; i < Array.getLength(o) && o instanceof Object[]; i++) {
+                places += placesOf(Array.get(o, i), seen);
+            }
+            return places;
+        }
+        for (Field f : o.getClass().getDeclaredFields()) {
+            if (!Modifier.isStatic(f.getModifiers())) {
+                f.setAccessible(true);
+                places += 1 + (f.getType().isPrimitive() ? 0 : placesOf(f.get(o), seen));
+            }
+        }
+        return places;
     }
 }
